@@ -1,0 +1,274 @@
+/** Promises 1 to 5: a new object, feed, end, text, fault. */
+public final class TapeTest {
+    private static final String LOOP = "block;num 1;arg 0;num 1;goto 1;block;phi 0 8;phi 2 9;less 3 1;if 5 2 3;"
+        + "block;num 2;num 1;add 3 7;add 7 4;goto 1;block;add 3 4;ret 10;";
+
+    public static void main(String[] args) {
+        newObject();
+        feeding();
+        ending();
+        takenTexts();
+        noTokens();
+        misplacedTokens();
+        numbersOutOfBounds();
+        tooMany();
+        unsoundTexts();
+        firstFaultCounts();
+        whatStays();
+        Check.finish();
+    }
+
+    private static void newObject() {
+        ValueNumberer x = new ValueNumberer();
+        for (int what = 0; what <= 4; what++) Check.due("new rule " + what, x.rule(what), 0);
+        Check.due("new fault()", x.fault(), 0);
+        Check.due("new torn()", x.torn(), 0);
+        Check.due("new block(0, 0)", x.block(0, 0), -1);
+        Check.due("new name(0, 0)", x.name(0, 0), -1);
+        Check.due("new went(0)", x.went(0), -4);
+        Check.due("new count(0)", x.count(0), 0);
+        Check.due("new count(1)", x.count(1), 0);
+        Check.due("new count(2)", x.count(2), -4);
+        Check.due("new count(3)", x.count(3), 0);
+        for (int k = 0; k < 4; k++) {
+            Check.due("new lay " + k, x.lay(k, 0, 1), -11);
+            Check.due("new read " + k, x.read(k, 0, 0, 1), 0);
+            Check.due("new torn " + k, x.torn(), 1);
+        }
+        Check.due("new back(0)", x.back(0), -2);
+        Check.due("new back(1)", x.back(1), -2);
+    }
+
+    private static void feeding() {
+        ValueNumberer x = new ValueNumberer();
+        Check.due("feed(-1)", x.feed(-1), -1);
+        Check.due("feed(128)", x.feed(128), -1);
+        Check.due("feed(MIN)", x.feed(Integer.MIN_VALUE), -1);
+        Check.due("feed(MAX)", x.feed(Integer.MAX_VALUE), -1);
+        Check.due("feed(0)", x.feed(0), 1);
+        Check.due("feed(127)", x.feed(127), 2);
+        for (int i = 3; i <= 320; i++) Check.due("feed " + i, x.feed(32), i);
+        Check.due("feed beyond", x.feed(32), -3);
+        Check.due("feed(128) beyond", x.feed(128), -1);
+        Check.due("count(1) full", x.count(1), 320);
+        Check.due("end(319)", x.end(319), 320);
+        Check.due("feed again", x.feed(32), 320);
+        Check.due("text() of byte 0", x.text(), -10);
+        Check.due("fault() of byte 0", x.fault(), 1);
+        Check.due("count(1) behind", x.count(1), 0);
+    }
+
+    private static void ending() {
+        ValueNumberer x = new ValueNumberer();
+        Check.due("end(0) of none", x.end(0), 0);
+        Check.due("end(1) of none", x.end(1), -1);
+        Check.due("end(-1) of none", x.end(-1), -1);
+        Check.feedAll(x, "block;num 7;ret 0;block");
+        Check.due("end(24)", x.end(24), -1);
+        Check.due("end(-1)", x.end(-1), -1);
+        Check.due("count(1)", x.count(1), 23);
+        Check.due("end(23)", x.end(23), 23);
+        Check.due("end(18)", x.end(18), 23);
+        Check.due("count(1) then", x.count(1), 18);
+        Check.due("end(19)", x.end(19), -1);
+        Check.due("text()", x.text(), 1);
+        Check.due("run", x.run(0, 0, 0, 0), 7);
+        Check.feedAll(x, "ab");
+        Check.due("end(0)", x.end(0), 2);
+        Check.due("count(1) at last", x.count(1), 0);
+    }
+
+    private static void takenTexts() {
+        Check.taken(LOOP, 11);
+        Check.taken("", 0);
+        Check.taken("   ", 0);
+        Check.taken("block;num0;ret0;", 1);
+        Check.taken("  block  ;  num  0  ;  ret  0  ;  ", 1);
+        Check.taken("block;num 00;num 09;num 99;ret 02;", 3);
+        Check.taken("block;arg0;arg3;add0 1;mul2 2;neg3;less4 0;div5 1;ret6;", 7);
+        Check.taken("block;goto 1;block;goto 1;", 0);
+        Check.taken("block;arg 0;if 0 1 1;block;phi 0;ret 1;", 2);
+        Check.taken("block;num 1;goto 1;block;phi 0 1;goto 1;", 2);
+        ValueNumberer x = Check.taken("block;goto1;block;goto2;block;goto3;block;goto4;block;goto5;block;goto1;", 0);
+        Check.due("six blocks", x.rule(0), 6);
+        x = Check.taken("block;" + "num1;".repeat(20) + "ret 19;", 20);
+        Check.due("twenty names", x.rule(1), 20);
+        x = Check.taken("block;goto 2;block;add 1 1;ret 0;block;num 4;goto 1;", 2);
+        Check.due("a later block that dominates", x.run(0, 0, 0, 0), 8);
+        x = Check.taken("block;num 7;ret 0;" + " ".repeat(302), 1);
+        Check.due("run of a full tape", x.run(0, 0, 0, 0), 7);
+    }
+
+    private static void refused(String text, int fault, int place) {
+        ValueNumberer x = new ValueNumberer();
+        Check.feedAll(x, text);
+        Check.due("text() of " + text, x.text(), -10 - place);
+        Check.due("fault() of " + text, x.fault(), fault);
+        Check.due("tape behind " + text, x.count(1), 0);
+        Check.due("blocks behind " + text, x.rule(0), 0);
+    }
+
+    private static void noTokens() {
+        refused("?", 1, 0);
+        refused("  A", 1, 2);
+        refused("123", 1, 0);
+        refused("block;num 123;ret 0;", 1, 10);
+        refused("block;num 1?;ret 0;", 1, 11);
+        refused("block;num -1;ret 0;", 1, 10);
+        refused("block;num 1;ret 0;000", 1, 18);
+        refused("block;num 1;ret 0;\t", 1, 18);
+        refused("block`", 1, 5);
+        refused("block{", 1, 5);
+        refused("block/", 1, 5);
+        refused("block:", 1, 5);
+        refused("block;num 1;ret 0;" + (char) 31, 1, 18);
+        refused("block;num 1;ret 0;!", 1, 18);
+    }
+
+    private static void misplacedTokens() {
+        refused(";", 2, 0);
+        refused("7", 2, 0);
+        refused("num 1;", 2, 0);
+        refused("blocks;", 2, 0);
+        refused("bloc", 2, 0);
+        refused("block", 2, 5);
+        refused("block  ", 2, 7);
+        refused("block;", 2, 6);
+        refused("block 1;", 2, 6);
+        refused("block;block;", 2, 6);
+        refused("block;num;", 2, 9);
+        refused("block;num num;", 2, 10);
+        refused("block;num 1 2;", 2, 12);
+        refused("block;num 1", 2, 11);
+        refused("block;num 1;", 2, 12);
+        refused("block;num 1;ret", 2, 15);
+        refused("block;num 1;ret 0", 2, 17);
+        refused("block;num 1;ret 0 0;", 2, 18);
+        refused("block;num 1;ret 0;ret 0;", 2, 18);
+        refused("block;num 1;ret 0;num 1;", 2, 18);
+        refused("block;num 1;ret 0;;", 2, 18);
+        refused("block;numx 1;", 2, 6);
+        refused("block;gotoif", 2, 6);
+        refused("block;neg 0 0;", 2, 12);
+        refused("block;add 0;", 2, 11);
+        refused("block;add 0 0 0;", 2, 14);
+        refused("block;mul 0 0 0;", 2, 14);
+        refused("block;less 0;", 2, 12);
+        refused("block;div 0;", 2, 11);
+        refused("block;phi;", 2, 9);
+        refused("block;phi 0 num;", 2, 12);
+        refused("block;arg;", 2, 9);
+        refused("block;num 1;phi 0;", 2, 12);
+        refused("block;phi 0;num 1;phi 0;", 2, 18);
+        refused("block;goto;", 2, 10);
+        refused("block;goto 1 1;", 2, 13);
+        refused("block;if 0 1;", 2, 12);
+        refused("block;if 0 1 1 1;", 2, 15);
+        refused("block;gone 0;", 2, 6);
+        refused("block;num 1;ret 0;nonsense", 2, 18);
+    }
+
+    private static void numbersOutOfBounds() {
+        refused("block;arg 4;", 3, 10);
+        refused("block;add 20 0;", 3, 10);
+        refused("block;add 0 20;", 3, 12);
+        refused("block;neg 99;", 3, 10);
+        refused("block;phi 20;", 3, 10);
+        refused("block;phi 0 20;", 3, 12);
+        refused("block;goto 0;", 3, 11);
+        refused("block;goto 6;", 3, 11);
+        refused("block;if 20 1 1;", 3, 9);
+        refused("block;if 0 0 1;", 3, 11);
+        refused("block;if 0 1 6;", 3, 13);
+        refused("block;if 0 1 00;", 3, 13);
+        refused("block;ret 20;", 3, 10);
+    }
+
+    private static void tooMany() {
+        String six = "block;goto1;block;goto2;block;goto3;block;goto4;block;goto5;block;goto1;";
+        refused(six + "block", 5, 72);
+        refused(six + " block;?", 5, 73);
+        refused(six + "num", 2, 72);
+        String twenty = "block;" + "num1;".repeat(20);
+        refused(twenty + "num1;ret 0;", 5, 106);
+        refused(twenty + "num ?", 5, 106);
+        refused(twenty + "neg 0;", 5, 106);
+        refused(twenty + "phi 0;", 2, 106);
+        refused(twenty + "goto 1;block;phi 0;", 5, 119);
+        refused(twenty + "goto 1;block;arg 0;", 5, 119);
+    }
+
+    private static void unsoundTexts() {
+        refused("block;ret 0;", 6, 12);
+        refused("block;ret 0; ", 6, 13);
+        refused("block;goto 1;", 6, 13);
+        refused("block;num 1;if 0 1 2;block;ret 0;", 6, 33);
+        refused("block;num 1;if 0 2 1;block;ret 0;", 6, 33);
+        refused("block;num 1;ret 0;block;ret 0;", 6, 30);
+        refused("block;num 1;ret 0;block;goto 2;block;goto 1;", 6, 44);
+        refused("block;num 1;ret 1;", 6, 18);
+        refused("block;neg 0;ret 0;", 6, 18);
+        refused("block;neg 1;num 1;ret 0;", 6, 24);
+        refused("block;num 1;add 0 2;ret 0;", 6, 26);
+        refused("block;num 1;add 3 0;ret 0;", 6, 26);
+        refused("block;num 1;if 1 1 1;block;ret 0;", 6, 33);
+        refused("block;phi 0;ret 0;", 6, 18);
+        refused("block;num 1;goto 1;block;phi 0 0;ret 0;", 6, 39);
+        refused("block;num 1;if 0 1 1;block;phi 0 0;ret 0;", 6, 41);
+        refused("block;num 1;goto 1;block;phi 0;goto 1;", 6, 38);
+        refused("block;num 1;goto 1;block;phi 1 0;goto 1;", 6, 40);
+        refused("block;num 1;goto 1;block;phi 0 2;goto 1;", 6, 40);
+        // neither of two ways dominates where they meet
+        refused("block;num 1;if 0 1 2;block;num 2;goto 3;block;goto 3;block;ret 1;", 6, 65);
+        refused("block;num 1;if 0 1 2;block;num 2;goto 3;block;goto 3;block;neg 1;ret 0;", 6, 71);
+        refused("block;num 1;if 0 1 2;block;num 2;goto 3;block;goto 3;block;phi 0 1;ret 0;", 6, 73);
+        Check.taken("block;num 1;if 0 1 2;block;num 2;goto 3;block;goto 3;block;phi 1 0;ret 0;", 3);
+        // far more operands than there may be preds
+        refused("block;num 1;goto 1;block;phi" + " 0".repeat(140) + ";ret 0;", 6, 315);
+        Check.taken("block;num 1;goto 1;block;if 0 1 2;block;if 0 1 3;block;if 0 1 4;block;if 0 1 5;block;phi 0;if 1 1 1;", 2);
+        Check.taken("block;num 1;goto 1;block;phi 0 0 0 0 0 1;if 0 1 2;block;if 0 1 3;block;if 0 1 4;block;if 0 1 5;block;goto 1;", 2);
+    }
+
+    private static void firstFaultCounts() {
+        refused("block;num 1;ret 5;block;?", 1, 24);
+        refused("block;arg 9 ?", 3, 10);
+        refused("block;num num ?", 2, 10);
+        refused("block;num 1;ret 5", 2, 17);
+        refused("block;add 20 123;", 3, 10);
+        refused("block;add 123 20;", 1, 10);
+        refused("goto 123;", 2, 0);
+        refused("block;goto 100;", 1, 11);
+        refused("block;num 1 100;", 1, 12);
+    }
+
+    private static void whatStays() {
+        ValueNumberer x = Check.taken(LOOP, 11);
+        Check.due("run", x.run(3, 0, 0, 0), 6);
+        x.keep(0);
+        x.sheet(0, 2, 5);
+        x.read(1, 0, 0, 1);
+        Check.feedAll(x, "block;num 1;ret 1;");
+        Check.due("text() refused", x.text(), -28);
+        Check.due("fault()", x.fault(), 6);
+        Check.due("names stay", x.rule(1), 11);
+        Check.due("value stays", x.value(10), 6);
+        Check.due("went stays", x.went(2), 1);
+        Check.due("images stay", x.count(0), 1);
+        Check.due("fault() asked again", x.fault(), 6);
+        Check.feedAll(x, "block;num 1;ret 0;");
+        Check.due("fault() ahead of text()", x.fault(), 6);
+        Check.due("text() taken", x.text(), 1);
+        Check.due("fault() then", x.fault(), 0);
+        Check.due("no run", x.went(0), -4);
+        Check.due("no value", x.value(0), 2000000000000L);
+        Check.due("no images", x.count(0), 0);
+        Check.due("no image", x.back(0), -2);
+        Check.due("sheets stay", x.count(2), 5);
+        Check.due("torn stays", x.torn(), 1);
+        Check.due("blocks", x.rule(0), 1);
+        Check.due("old name", x.name(1, 0), -1);
+        Check.due("text() of nothing", x.text(), 0);
+        Check.due("no blocks", x.rule(0), 0);
+        Check.due("name is gone", x.name(0, 0), -1);
+    }
+}
