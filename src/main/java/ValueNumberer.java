@@ -327,6 +327,7 @@ public final class ValueNumberer {
         final int[] first = new int[MOST_BLOCKS];
         final int[] size = new int[MOST_BLOCKS];
         final int[] ending = new int[MOST_BLOCKS];
+        // Of these three only what the ending has means anything.
         final int[] goal = new int[MOST_BLOCKS];
         final int[] other = new int[MOST_BLOCKS];
         final int[] asked = new int[MOST_BLOCKS];
@@ -358,7 +359,6 @@ public final class ValueNumberer {
             kind[names] = ofKind;
             home[names] = blocks - 1;
             arity[names] = 0;
-            figure[names] = 0;
             size[blocks - 1]++;
             names++;
             return true;
@@ -377,11 +377,7 @@ public final class ValueNumberer {
         }
 
         void putEnd(int how) {
-            if (blocks < 1) return;
-            ending[blocks - 1] = how;
-            asked[blocks - 1] = 0;
-            goal[blocks - 1] = 0;
-            other[blocks - 1] = 0;
+            if (blocks > 0) ending[blocks - 1] = how;
         }
 
         void putAsked(int n) {

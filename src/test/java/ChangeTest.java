@@ -51,6 +51,9 @@ public final class ChangeTest {
         Check.due("operand(3, 0)", x.operand(3, 0), 0);
         Check.due("operand(5, 0)", x.operand(5, 0), 2);
         Check.due("ret", x.block(0, 5), 4);
+        ValueNumberer z = Check.taken("block;goto 2;block;num 4;ret 0;block;num 4;goto 1;", 2);
+        Check.due("a leader behind", z.replace(), 1);
+        Check.due("ret of it", z.block(1, 5), 1);
         ValueNumberer y = Check.taken("block;arg 0;if 0 1 2;block;neg 0;goto 3;block;neg 0;goto 3;block;phi 1 2;ret 3;", 4);
         Check.due("each is its own leader", y.replace(), 0);
     }
@@ -65,6 +68,11 @@ public final class ChangeTest {
         Check.due("names", x.rule(1), 7);
         ValueNumberer y = Check.taken("block;num 1;neg 0;neg 1;ret 2;", 3);
         Check.due("all are needed", y.sweep(), 0);
+        ValueNumberer w = Check.taken("block;num 1;neg 0;ret 1;", 2);
+        Check.due("the first is needed", w.sweep(), 0);
+        Check.feedAll(w, "block;num 1;num 2;ret 1;");
+        Check.due("text()", w.text(), 2);
+        Check.due("the first is needed no more", w.sweep(), 1);
         ValueNumberer z = Check.taken("block;goto 2;block;neg 1;ret 0;block;num 3;num 4;goto 1;", 3);
         Check.due("one in a later block is needed", z.sweep(), 1);
         Check.due("kind 1", z.name(1, 0), 0);

@@ -97,6 +97,8 @@ public final class ClassesTest {
         Check.dueRow("leader", leadersOf(x), 2, 2, 2, 2);
         ValueNumberer y = Check.taken("block;num 4;goto 3;block;num 4;ret 1;block;num 4;goto 1;block;num 4;goto 2;", 4);
         Check.dueRow("leader of four", leadersOf(y), 0, 0, 0, 0);
+        ValueNumberer z = Check.taken("block;goto 2;block;num 4;ret 0;block;num 4;goto 1;", 2);
+        Check.due("leader asked first of all", z.leader(0), 1);
     }
 
     private static void goneNames() {

@@ -13,6 +13,7 @@ public final class FormsTest {
         phisOfOneForm();
         samePhis();
         phisBehind();
+        behindAtTheFirstPred();
         notAhead();
         goneNames();
         wrongNumbers();
@@ -99,6 +100,14 @@ public final class FormsTest {
         // name 3 looks to name 2 alone, which is ahead of it, but no name ahead of it is the same
         dueForms(Check.taken("block;arg 0;goto 1;block;phi 0 1;phi 0 1;phi 0 0;phi 0 0;if 0 1 2;block;ret 2;", 5),
             NAME, NAME + 1, NAME + 2, NAME, NAME);
+    }
+
+    private static void behindAtTheFirstPred() {
+        // the loop comes by the first pred, block 1
+        ValueNumberer x = Check.taken("block;arg 0;goto 3;block;num 7;goto 2;block;phi 3 0;phi 3 0;phi 0 0;if 0 1 4;"
+            + "block;goto 2;block;ret 2;", 5);
+        Check.due("number asked first of all", x.number(0), NOTHING);
+        dueForms(x, NAME, 7, NAME + 2, NAME + 3, NAME);
     }
 
     private static void notAhead() {

@@ -178,6 +178,8 @@ public final class KeepTest {
         Check.due("no cells", x.sheet(0, 0, 0), 1);
         Check.due("read of no cells", x.read(0, 0, 0, 1), 0);
         Check.due("torn() of no cells", x.torn(), 2);
+        Check.due("read of no cells as shorts", x.read(0, 1, 0, 1), 0);
+        Check.due("torn() of them", x.torn(), 3);
         int[] wrong = {Integer.MIN_VALUE, -1, 21, Integer.MAX_VALUE};
         for (int w : wrong) {
             Check.due("k " + w, x.read(w, 1, 0, 1), -1);

@@ -13,6 +13,7 @@ public final class ShapeTest {
         meetBlocks();
         seenNames();
         laterDominators();
+        firstNameWithOperands();
         behindSweep();
         wrongNumbers();
         Check.finish();
@@ -125,6 +126,24 @@ public final class ShapeTest {
         Check.due("block(1, 8)", x.block(1, 8), 2);
         Check.due("block(2, 7)", x.block(2, 7), 5);
         Check.due("block(2, 8)", x.block(2, 8), 0);
+    }
+
+    private static void firstNameWithOperands() {
+        ValueNumberer x = Check.taken("block;goto 2;block;add 1 2;goto 3;block;num 4;num 4;if 1 1 3;block;ret 1;", 3);
+        Check.due("operands", x.rule(4), 4);
+        Check.due("uses", x.name(1, 4), 3);
+        Check.due("uses of the other", x.name(2, 4), 1);
+        Check.due("replace()", x.replace(), 1);
+        Check.due("operand(0, 1)", x.operand(0, 1), 1);
+        x.alter(1, 0);
+        Check.due("run", x.run(0, 0, 0, 0), 0);
+        Check.due("name 0 got none", x.value(0), 2000000000000L);
+        x.alter(1, 1);
+        Check.due("run by block 1", x.run(0, 0, 0, 0), 1);
+        Check.due("name 0 got one", x.value(0), 2);
+        x.alter(1, 0);
+        Check.due("run past block 1", x.run(0, 0, 0, 0), 0);
+        Check.due("name 0 got none again", x.value(0), 2000000000000L);
     }
 
     private static void behindSweep() {

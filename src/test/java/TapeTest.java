@@ -15,6 +15,7 @@ public final class TapeTest {
         unsoundTexts();
         firstFaultCounts();
         whatStays();
+        toldAnew();
         Check.finish();
     }
 
@@ -93,6 +94,7 @@ public final class TapeTest {
         Check.due("six blocks", x.rule(0), 6);
         x = Check.taken("block;" + "num1;".repeat(20) + "ret 19;", 20);
         Check.due("twenty names", x.rule(1), 20);
+        Check.taken("block;" + "num1;".repeat(20) + "if 19 1 1;block;ret 19;", 20);
         x = Check.taken("block;goto 2;block;add 1 1;ret 0;block;num 4;goto 1;", 2);
         Check.due("a later block that dominates", x.run(0, 0, 0, 0), 8);
         x = Check.taken("block;num 7;ret 0;" + " ".repeat(302), 1);
@@ -166,6 +168,11 @@ public final class TapeTest {
         refused("block;if 0 1 1 1;", 2, 15);
         refused("block;gone 0;", 2, 6);
         refused("block;num 1;ret 0;nonsense", 2, 18);
+        String[] strange = {"mum", "brg", "odd", "nul", "leg", "mess", "hiv", "chi", "soto", "of", "let", "phx", "goton", "els"};
+        for (String word : strange) refused("block;" + word + " 1;", 2, 6);
+        refused("clock;num 1;ret 0;", 2, 0);
+        refused(";".repeat(320), 2, 0);
+        refused("block;num 1;ret 0;" + ";".repeat(302), 2, 18);
     }
 
     private static void numbersOutOfBounds() {
@@ -239,6 +246,32 @@ public final class TapeTest {
         refused("goto 123;", 2, 0);
         refused("block;goto 100;", 1, 11);
         refused("block;num 1 100;", 1, 12);
+    }
+
+    private static void tell(ValueNumberer x, String text, int want) {
+        Check.feedAll(x, text);
+        Check.due("text() of " + text, x.text(), want);
+    }
+
+    private static void toldAnew() {
+        ValueNumberer x = Check.taken(LOOP, 11);
+        tell(x, "block;num 5;neg 0;ret 1;", 2);
+        Check.due("names of block 0", x.block(0, 1), 2);
+        Check.due("operands of a num", x.name(0, 2), 0);
+        Check.due("operands", x.rule(4), 2);
+        Check.due("phis", x.rule(3), 0);
+        Check.due("sum of numbers", x.count(3), 5);
+        tell(x, "block;arg 0;if 0 1 2;block;goto 2;block;ret 0;", 1);
+        Check.due("preds", x.block(2, 6), 2);
+        Check.due("dominators", x.block(2, 7), 5);
+        tell(x, "block;arg 0;goto 1;block;goto 2;block;ret 0;", 1);
+        Check.due("preds of the next", x.block(2, 6), 1);
+        Check.due("dominators of the next", x.block(2, 7), 7);
+        tell(x, "block;arg 0;if 0 1 2;block;goto 2;block;ret 0;", 1);
+        Check.due("dominators as before", x.block(2, 7), 5);
+        tell(x, "block;num 1;", -22);
+        tell(x, "num 1;", -10);
+        tell(x, "block;num 1;ret 0;", 1);
     }
 
     private static void whatStays() {
