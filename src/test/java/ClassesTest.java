@@ -99,6 +99,7 @@ public final class ClassesTest {
         Check.dueRow("leader of four", leadersOf(y), 0, 0, 0, 0);
         ValueNumberer z = Check.taken("block;goto 2;block;num 4;ret 0;block;num 4;goto 1;", 2);
         Check.due("leader asked first of all", z.leader(0), 1);
+        Check.due("one of another class", Check.taken("block;num 4;num 5;ret 1;", 2).leader(1), 1);
     }
 
     private static void goneNames() {

@@ -15,6 +15,7 @@ public final class ShapeTest {
         laterDominators();
         firstNameWithOperands();
         behindSweep();
+        asMuchAsMayBe();
         wrongNumbers();
         Check.finish();
     }
@@ -155,6 +156,34 @@ public final class ShapeTest {
         Check.due("names of the block", x.block(0, 1), 3);
         Check.due("operand(1, 0)", x.operand(1, 0), -1);
         Check.due("seen(1, 2)", x.seen(1, 2), 1);
+    }
+
+    private static void asMuchAsMayBe() {
+        // six blocks, five of them lead to block 1 and block 1 itself; twenty names
+        ValueNumberer x = Check.taken("block;num1;goto1;block;phi0 0 1 2 3 19;phi0 1 2 2 2 2;phi0 2 1 2 2 2;if0 1 2;block;if0 1 3;"
+            + "block;if0 1 4;block;if0 1 5;block;" + "num7;".repeat(14) + "neg1;neg2;goto1;", 20);
+        Check.dueRow("rule", rules(x), 6, 20, 0, 3, 24);
+        Check.dueRow("block 1", blockRow(x, 1), 1, 3, 1, 1, 2, 0, 6, 3, 0);
+        Check.dueRow("block 5", blockRow(x, 5), 4, 16, 0, 1, -4, -4, 1, 63, 4);
+        Check.due("pred(1, 5)", x.pred(1, 5), 5);
+        Check.due("operand(1, 5)", x.operand(1, 5), 19);
+        Check.due("operand(1, 6)", x.operand(1, 6), -1);
+        Check.dueRow("name 19", nameRow(x, 19), 4, 5, 1, -4, 1);
+        Check.due("classes(0)", x.classes(0), 7);
+        Check.due("classes(1)", x.classes(1), 2);
+        Check.due("classes(2)", x.classes(2), 14);
+        Check.due("leader(19)", x.leader(19), 19);
+        Check.due("form(19)", x.form(19), 19);
+        Check.due("set(1, 5, 18)", x.set(1, 5, 18), 19);
+        Check.due("count(3)", x.count(3), 99);
+        Check.due("run", x.run(0, 0, 0, 0), 2000000000000L);
+        Check.due("went(0)", x.went(0), 200);
+        Check.due("agree", x.agree(1, 2, 0, 1, 1), 0);
+        Check.due("replace()", x.replace(), 0);
+        Check.due("sweep()", x.sweep(), 19);
+        Check.due("gone", x.rule(2), 19);
+        Check.due("keep", x.keep(0), 0);
+        Check.due("back", x.back(0), 20);
     }
 
     private static void wrongNumbers() {
