@@ -7,6 +7,7 @@ public final class RunTest {
         voids();
         ways();
         phisAtOnce();
+        nextBlockIsLeftAlone();
         endless();
         latestValues();
         withoutBlocks();
@@ -75,6 +76,15 @@ public final class RunTest {
         ValueNumberer y = Check.taken("block;arg 0;num 5;if 0 3 1;block;num 6;goto 2;block;phi 2 1;ret 3;block;goto 2;", 4);
         Check.due("by block 3", y.run(1, 0, 0, 0), 5);
         Check.due("by block 1", y.run(0, 0, 0, 0), 6);
+    }
+
+    private static void nextBlockIsLeftAlone() {
+        ValueNumberer x = Check.taken("block;arg 0;num 5;goto 1;block;if 0 2 3;block;phi 1;ret 2;block;ret 1;", 3);
+        Check.due("past the phi", x.run(0, 0, 0, 0), 5);
+        Check.due("the phi got none", x.value(2), NOTHING);
+        Check.due("values", x.went(1), 2);
+        Check.due("by the phi", x.run(1, 0, 0, 0), 5);
+        Check.due("the phi got one", x.value(2), 5);
     }
 
     private static void endless() {

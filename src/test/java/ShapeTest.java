@@ -127,6 +127,9 @@ public final class ShapeTest {
         Check.due("block(1, 8)", x.block(1, 8), 2);
         Check.due("block(2, 7)", x.block(2, 7), 5);
         Check.due("block(2, 8)", x.block(2, 8), 0);
+        ValueNumberer y = Check.taken("block;goto 3;block;goto 2;block;goto 4;block;goto 1;block;goto 1;", 0);
+        int[] nearest = {-4, 3, 1, 0, 2};
+        for (int b = 0; b < nearest.length; b++) Check.due("nearest of " + b, y.block(b, 8), nearest[b]);
     }
 
     private static void firstNameWithOperands() {
@@ -179,6 +182,10 @@ public final class ShapeTest {
         Check.due("run", x.run(0, 0, 0, 0), 2000000000000L);
         Check.due("went(0)", x.went(0), 200);
         Check.due("agree", x.agree(1, 2, 0, 1, 1), 0);
+        Check.due("alter", x.alter(0, 0), 1);
+        Check.due("run by all blocks", x.run(0, 0, 0, 0), 2000000000000L);
+        Check.due("values", x.went(1), 1 + 40 * 3 + 39 * 16);
+        Check.due("the last of them", x.value(19), 0);
         Check.due("replace()", x.replace(), 0);
         Check.due("sweep()", x.sweep(), 19);
         Check.due("gone", x.rule(2), 19);
