@@ -2,15 +2,22 @@
 final class Check {
     private static int asked = 0;
     private static int wrong = 0;
+    private static String about = "";
 
     private Check() {
+    }
+
+    /** What is asked from here on is about these words of the document. */
+    static void sentence(String section, String words) {
+        about = "[" + section + ": " + words + "] ";
+        due("is told in the document", Document.name(section, words) ? 1 : 0, 1);
     }
 
     static void due(String call, long got, long want) {
         asked++;
         if (got == want) return;
         wrong++;
-        if (wrong <= 40) System.out.println(call + " answered " + got + ", due is " + want);
+        if (wrong <= 40) System.out.println(about + call + " answered " + got + ", due is " + want);
     }
 
     /** A row of answers of calls that differ in their last argument alone, which counts from 0. */
@@ -20,7 +27,8 @@ final class Check {
     }
 
     static void feedAll(ValueNumberer x, String text) {
-        for (int i = 0; i < text.length(); i++) due("feed " + text.charAt(i), x.feed(text.charAt(i)), x.count(1) == i + 1 ? i + 1 : -99);
+        int had = x.count(1);
+        for (int i = 0; i < text.length(); i++) due("feed " + text.charAt(i), x.feed(text.charAt(i)), had + i + 1);
     }
 
     /** A new object that has taken the text. */
@@ -30,6 +38,16 @@ final class Check {
         due("text() of " + text, x.text(), names);
         due("fault() of " + text, x.fault(), 0);
         return x;
+    }
+
+    /** A new object refuses the text, by a fault at a place. */
+    static void refused(String text, int fault, int place) {
+        ValueNumberer x = new ValueNumberer();
+        feedAll(x, text);
+        due("text() of " + text, x.text(), -10 - place);
+        due("fault() of " + text, x.fault(), fault);
+        due("tape behind " + text, x.count(1), 0);
+        due("blocks behind " + text, x.rule(0), 0);
     }
 
     static void finish() {

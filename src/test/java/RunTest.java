@@ -16,9 +16,9 @@ public final class RunTest {
     }
 
     private static void arithmetic() {
-        ValueNumberer x = Check.taken("block;arg 0;arg 1;add 0 1;mul 0 1;neg 0;less 0 1;div 0 1;ret 2;", 7);
         int[] some = {0, 1, -1, 2, -2, 7, -7, 65536, 46341, Integer.MAX_VALUE, Integer.MIN_VALUE, 1103515245};
         for (int a : some) {
+            ValueNumberer x = Check.taken("block;arg 0;arg 1;add 0 1;mul 0 1;neg 0;less 0 1;div 0 1;ret 2;", 7);
             for (int b : some) {
                 Check.due("sum", x.run(a, b, 0, 0), a + b);
                 Check.due("value 0", x.value(0), a);

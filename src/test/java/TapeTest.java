@@ -101,151 +101,142 @@ public final class TapeTest {
         Check.due("run of a full tape", x.run(0, 0, 0, 0), 7);
     }
 
-    private static void refused(String text, int fault, int place) {
-        ValueNumberer x = new ValueNumberer();
-        Check.feedAll(x, text);
-        Check.due("text() of " + text, x.text(), -10 - place);
-        Check.due("fault() of " + text, x.fault(), fault);
-        Check.due("tape behind " + text, x.count(1), 0);
-        Check.due("blocks behind " + text, x.rule(0), 0);
-    }
-
     private static void noTokens() {
-        refused("?", 1, 0);
-        refused("  A", 1, 2);
-        refused("123", 1, 0);
-        refused("block;num 123;ret 0;", 1, 10);
-        refused("block;num 1?;ret 0;", 1, 11);
-        refused("block;num -1;ret 0;", 1, 10);
-        refused("block;num 1;ret 0;000", 1, 18);
-        refused("block;num 1;ret 0;\t", 1, 18);
-        refused("block`", 1, 5);
-        refused("block{", 1, 5);
-        refused("block/", 1, 5);
-        refused("block:", 1, 5);
-        refused("block;num 1;ret 0;" + (char) 31, 1, 18);
-        refused("block;num 1;ret 0;!", 1, 18);
+        Check.refused("?", 1, 0);
+        Check.refused("  A", 1, 2);
+        Check.refused("123", 1, 0);
+        Check.refused("block;num 123;ret 0;", 1, 10);
+        Check.refused("block;num 1?;ret 0;", 1, 11);
+        Check.refused("block;num -1;ret 0;", 1, 10);
+        Check.refused("block;num 1;ret 0;000", 1, 18);
+        Check.refused("block;num 1;ret 0;\t", 1, 18);
+        Check.refused("block`", 1, 5);
+        Check.refused("block{", 1, 5);
+        Check.refused("block/", 1, 5);
+        Check.refused("block:", 1, 5);
+        Check.refused("block;num 1;ret 0;" + (char) 31, 1, 18);
+        Check.refused("block;num 1;ret 0;!", 1, 18);
     }
 
     private static void misplacedTokens() {
-        refused(";", 2, 0);
-        refused("7", 2, 0);
-        refused("num 1;", 2, 0);
-        refused("blocks;", 2, 0);
-        refused("bloc", 2, 0);
-        refused("block", 2, 5);
-        refused("block  ", 2, 7);
-        refused("block;", 2, 6);
-        refused("block 1;", 2, 6);
-        refused("block;block;", 2, 6);
-        refused("block;num;", 2, 9);
-        refused("block;num num;", 2, 10);
-        refused("block;num 1 2;", 2, 12);
-        refused("block;num 1", 2, 11);
-        refused("block;num 1;", 2, 12);
-        refused("block;num 1;ret", 2, 15);
-        refused("block;num 1;ret 0", 2, 17);
-        refused("block;num 1;ret 0 0;", 2, 18);
-        refused("block;num 1;ret 0;ret 0;", 2, 18);
-        refused("block;num 1;ret 0;num 1;", 2, 18);
-        refused("block;num 1;ret 0;;", 2, 18);
-        refused("block;numx 1;", 2, 6);
-        refused("block;gotoif", 2, 6);
-        refused("block;neg 0 0;", 2, 12);
-        refused("block;add 0;", 2, 11);
-        refused("block;add 0 0 0;", 2, 14);
-        refused("block;mul 0 0 0;", 2, 14);
-        refused("block;less 0;", 2, 12);
-        refused("block;div 0;", 2, 11);
-        refused("block;phi;", 2, 9);
-        refused("block;phi 0 num;", 2, 12);
-        refused("block;arg;", 2, 9);
-        refused("block;num 1;phi 0;", 2, 12);
-        refused("block;phi 0;num 1;phi 0;", 2, 18);
-        refused("block;goto;", 2, 10);
-        refused("block;goto 1 1;", 2, 13);
-        refused("block;if 0 1;", 2, 12);
-        refused("block;if 0 1 1 1;", 2, 15);
-        refused("block;gone 0;", 2, 6);
-        refused("block;num 1;ret 0;nonsense", 2, 18);
+        Check.refused(";", 2, 0);
+        Check.refused("7", 2, 0);
+        Check.refused("num 1;", 2, 0);
+        Check.refused("blocks;", 2, 0);
+        Check.refused("bloc", 2, 0);
+        Check.refused("block", 2, 5);
+        Check.refused("block  ", 2, 7);
+        Check.refused("block;", 2, 6);
+        Check.refused("block 1;", 2, 6);
+        Check.refused("block;block;", 2, 6);
+        Check.refused("block;num;", 2, 9);
+        Check.refused("block;num num;", 2, 10);
+        Check.refused("block;num 1 2;", 2, 12);
+        Check.refused("block;num 1", 2, 11);
+        Check.refused("block;num 1;", 2, 12);
+        Check.refused("block;num 1;ret", 2, 15);
+        Check.refused("block;num 1;ret 0", 2, 17);
+        Check.refused("block;num 1;ret 0 0;", 2, 18);
+        Check.refused("block;num 1;ret 0;ret 0;", 2, 18);
+        Check.refused("block;num 1;ret 0;num 1;", 2, 18);
+        Check.refused("block;num 1;ret 0;;", 2, 18);
+        Check.refused("block;numx 1;", 2, 6);
+        Check.refused("block;gotoif", 2, 6);
+        Check.refused("block;neg 0 0;", 2, 12);
+        Check.refused("block;add 0;", 2, 11);
+        Check.refused("block;add 0 0 0;", 2, 14);
+        Check.refused("block;mul 0 0 0;", 2, 14);
+        Check.refused("block;less 0;", 2, 12);
+        Check.refused("block;div 0;", 2, 11);
+        Check.refused("block;phi;", 2, 9);
+        Check.refused("block;phi 0 num;", 2, 12);
+        Check.refused("block;arg;", 2, 9);
+        Check.refused("block;num 1;phi 0;", 2, 12);
+        Check.refused("block;phi 0;num 1;phi 0;", 2, 18);
+        Check.refused("block;goto;", 2, 10);
+        Check.refused("block;goto 1 1;", 2, 13);
+        Check.refused("block;if 0 1;", 2, 12);
+        Check.refused("block;if 0 1 1 1;", 2, 15);
+        Check.refused("block;gone 0;", 2, 6);
+        Check.refused("block;num 1;ret 0;nonsense", 2, 18);
         String[] strange = {"mum", "brg", "odd", "nul", "leg", "mess", "hiv", "chi", "soto", "of", "let", "phx", "goton", "els"};
-        for (String word : strange) refused("block;" + word + " 1;", 2, 6);
-        refused("clock;num 1;ret 0;", 2, 0);
-        refused(";".repeat(320), 2, 0);
-        refused("block;num 1;ret 0;" + ";".repeat(302), 2, 18);
+        for (String word : strange) Check.refused("block;" + word + " 1;", 2, 6);
+        Check.refused("clock;num 1;ret 0;", 2, 0);
+        Check.refused(";".repeat(320), 2, 0);
+        Check.refused("block;num 1;ret 0;" + ";".repeat(302), 2, 18);
     }
 
     private static void numbersOutOfBounds() {
-        refused("block;arg 4;", 3, 10);
-        refused("block;add 20 0;", 3, 10);
-        refused("block;add 0 20;", 3, 12);
-        refused("block;neg 99;", 3, 10);
-        refused("block;phi 20;", 3, 10);
-        refused("block;phi 0 20;", 3, 12);
-        refused("block;goto 0;", 3, 11);
-        refused("block;goto 6;", 3, 11);
-        refused("block;if 20 1 1;", 3, 9);
-        refused("block;if 0 0 1;", 3, 11);
-        refused("block;if 0 1 6;", 3, 13);
-        refused("block;if 0 1 00;", 3, 13);
-        refused("block;ret 20;", 3, 10);
+        Check.refused("block;arg 4;", 3, 10);
+        Check.refused("block;add 20 0;", 3, 10);
+        Check.refused("block;add 0 20;", 3, 12);
+        Check.refused("block;neg 99;", 3, 10);
+        Check.refused("block;phi 20;", 3, 10);
+        Check.refused("block;phi 0 20;", 3, 12);
+        Check.refused("block;goto 0;", 3, 11);
+        Check.refused("block;goto 6;", 3, 11);
+        Check.refused("block;if 20 1 1;", 3, 9);
+        Check.refused("block;if 0 0 1;", 3, 11);
+        Check.refused("block;if 0 1 6;", 3, 13);
+        Check.refused("block;if 0 1 00;", 3, 13);
+        Check.refused("block;ret 20;", 3, 10);
     }
 
     private static void tooMany() {
         String six = "block;goto1;block;goto2;block;goto3;block;goto4;block;goto5;block;goto1;";
-        refused(six + "block", 5, 72);
-        refused(six + " block;?", 5, 73);
-        refused(six + "num", 2, 72);
+        Check.refused(six + "block", 5, 72);
+        Check.refused(six + " block;?", 5, 73);
+        Check.refused(six + "num", 2, 72);
         String twenty = "block;" + "num1;".repeat(20);
-        refused(twenty + "num1;ret 0;", 5, 106);
-        refused(twenty + "num ?", 5, 106);
-        refused(twenty + "neg 0;", 5, 106);
-        refused(twenty + "phi 0;", 2, 106);
-        refused(twenty + "goto 1;block;phi 0;", 5, 119);
-        refused(twenty + "goto 1;block;arg 0;", 5, 119);
+        Check.refused(twenty + "num1;ret 0;", 5, 106);
+        Check.refused(twenty + "num ?", 5, 106);
+        Check.refused(twenty + "neg 0;", 5, 106);
+        Check.refused(twenty + "phi 0;", 2, 106);
+        Check.refused(twenty + "goto 1;block;phi 0;", 5, 119);
+        Check.refused(twenty + "goto 1;block;arg 0;", 5, 119);
     }
 
     private static void unsoundTexts() {
-        refused("block;ret 0;", 6, 12);
-        refused("block;ret 0; ", 6, 13);
-        refused("block;goto 1;", 6, 13);
-        refused("block;num 1;if 0 1 2;block;ret 0;", 6, 33);
-        refused("block;num 1;if 0 2 1;block;ret 0;", 6, 33);
-        refused("block;num 1;ret 0;block;ret 0;", 6, 30);
-        refused("block;num 1;ret 0;block;goto 2;block;goto 1;", 6, 44);
-        refused("block;num 1;ret 1;", 6, 18);
-        refused("block;neg 0;ret 0;", 6, 18);
-        refused("block;neg 1;num 1;ret 0;", 6, 24);
-        refused("block;num 1;add 0 2;ret 0;", 6, 26);
-        refused("block;num 1;add 3 0;ret 0;", 6, 26);
-        refused("block;num 1;if 1 1 1;block;ret 0;", 6, 33);
-        refused("block;phi 0;ret 0;", 6, 18);
-        refused("block;num 1;goto 1;block;phi 0 0;ret 0;", 6, 39);
-        refused("block;num 1;if 0 1 1;block;phi 0 0;ret 0;", 6, 41);
-        refused("block;num 1;goto 1;block;phi 0;goto 1;", 6, 38);
-        refused("block;num 1;goto 1;block;phi 1 0;goto 1;", 6, 40);
-        refused("block;num 1;goto 1;block;phi 0 2;goto 1;", 6, 40);
+        Check.refused("block;ret 0;", 6, 12);
+        Check.refused("block;ret 0; ", 6, 13);
+        Check.refused("block;goto 1;", 6, 13);
+        Check.refused("block;num 1;if 0 1 2;block;ret 0;", 6, 33);
+        Check.refused("block;num 1;if 0 2 1;block;ret 0;", 6, 33);
+        Check.refused("block;num 1;ret 0;block;ret 0;", 6, 30);
+        Check.refused("block;num 1;ret 0;block;goto 2;block;goto 1;", 6, 44);
+        Check.refused("block;num 1;ret 1;", 6, 18);
+        Check.refused("block;neg 0;ret 0;", 6, 18);
+        Check.refused("block;neg 1;num 1;ret 0;", 6, 24);
+        Check.refused("block;num 1;add 0 2;ret 0;", 6, 26);
+        Check.refused("block;num 1;add 3 0;ret 0;", 6, 26);
+        Check.refused("block;num 1;if 1 1 1;block;ret 0;", 6, 33);
+        Check.refused("block;phi 0;ret 0;", 6, 18);
+        Check.refused("block;num 1;goto 1;block;phi 0 0;ret 0;", 6, 39);
+        Check.refused("block;num 1;if 0 1 1;block;phi 0 0;ret 0;", 6, 41);
+        Check.refused("block;num 1;goto 1;block;phi 0;goto 1;", 6, 38);
+        Check.refused("block;num 1;goto 1;block;phi 1 0;goto 1;", 6, 40);
+        Check.refused("block;num 1;goto 1;block;phi 0 2;goto 1;", 6, 40);
         // neither of two ways dominates where they meet
-        refused("block;num 1;if 0 1 2;block;num 2;goto 3;block;goto 3;block;ret 1;", 6, 65);
-        refused("block;num 1;if 0 1 2;block;num 2;goto 3;block;goto 3;block;neg 1;ret 0;", 6, 71);
-        refused("block;num 1;if 0 1 2;block;num 2;goto 3;block;goto 3;block;phi 0 1;ret 0;", 6, 73);
+        Check.refused("block;num 1;if 0 1 2;block;num 2;goto 3;block;goto 3;block;ret 1;", 6, 65);
+        Check.refused("block;num 1;if 0 1 2;block;num 2;goto 3;block;goto 3;block;neg 1;ret 0;", 6, 71);
+        Check.refused("block;num 1;if 0 1 2;block;num 2;goto 3;block;goto 3;block;phi 0 1;ret 0;", 6, 73);
         Check.taken("block;num 1;if 0 1 2;block;num 2;goto 3;block;goto 3;block;phi 1 0;ret 0;", 3);
         // far more operands than there may be preds
-        refused("block;num 1;goto 1;block;phi" + " 0".repeat(140) + ";ret 0;", 6, 315);
+        Check.refused("block;num 1;goto 1;block;phi" + " 0".repeat(140) + ";ret 0;", 6, 315);
         Check.taken("block;num 1;goto 1;block;if 0 1 2;block;if 0 1 3;block;if 0 1 4;block;if 0 1 5;block;phi 0;if 1 1 1;", 2);
         Check.taken("block;num 1;goto 1;block;phi 0 0 0 0 0 1;if 0 1 2;block;if 0 1 3;block;if 0 1 4;block;if 0 1 5;block;goto 1;", 2);
     }
 
     private static void firstFaultCounts() {
-        refused("block;num 1;ret 5;block;?", 1, 24);
-        refused("block;arg 9 ?", 3, 10);
-        refused("block;num num ?", 2, 10);
-        refused("block;num 1;ret 5", 2, 17);
-        refused("block;add 20 123;", 3, 10);
-        refused("block;add 123 20;", 1, 10);
-        refused("goto 123;", 2, 0);
-        refused("block;goto 100;", 1, 11);
-        refused("block;num 1 100;", 1, 12);
+        Check.refused("block;num 1;ret 5;block;?", 1, 24);
+        Check.refused("block;arg 9 ?", 3, 10);
+        Check.refused("block;num num ?", 2, 10);
+        Check.refused("block;num 1;ret 5", 2, 17);
+        Check.refused("block;add 20 123;", 3, 10);
+        Check.refused("block;add 123 20;", 1, 10);
+        Check.refused("goto 123;", 2, 0);
+        Check.refused("block;goto 100;", 1, 11);
+        Check.refused("block;num 1 100;", 1, 12);
     }
 
     private static void tell(ValueNumberer x, String text, int want) {
