@@ -8,7 +8,6 @@ public final class ChangeTest {
         replacingEnds();
         replacingAtOnce();
         sweeping();
-        sweepingLoops();
         setting();
         settingPhis();
         altering();
@@ -77,17 +76,6 @@ public final class ChangeTest {
         Check.due("one in a later block is needed", z.sweep(), 1);
         Check.due("kind 1", z.name(1, 0), 0);
         Check.due("kind 2", z.name(2, 0), 8);
-    }
-
-    private static void sweepingLoops() {
-        // the second counter needs itself alone
-        ValueNumberer x = Check.taken("block;num 1;arg 0;goto 1;block;phi 0 5;phi 0 6;less 2 1;add 2 0;add 3 0;if 4 1 2;block;ret 2;", 7);
-        Check.due("refused numbers", x.name(7, 0), -1);
-        Check.due("sweep()", x.sweep(), 2);
-        Check.due("kind 3", x.name(3, 0), 8);
-        Check.due("kind 6", x.name(6, 0), 8);
-        Check.due("phi", x.rule(3), 1);
-        Check.due("run", x.run(4, 0, 0, 0), 4);
     }
 
     private static void setting() {

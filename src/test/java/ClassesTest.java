@@ -116,9 +116,6 @@ public final class ClassesTest {
         Check.dueRow("classes of a new one", all(x), 0, 0, 0);
         Check.due("part(0)", x.part(0), -1);
         Check.dueRow("classes without names", all(Check.taken("block;goto 1;block;goto 1;", 0)), 0, 0, 0);
-        ValueNumberer y = Check.taken("block;num 1;goto 1;block;goto 1;", 1);
-        y.sweep();
-        Check.dueRow("classes where all are gone", all(y), 0, 0, 0);
     }
 
     private static void wrongNumbers() {

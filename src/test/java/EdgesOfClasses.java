@@ -229,5 +229,8 @@ final class EdgesOfClasses {
         Check.due("leader(MIN)", x.leader(Integer.MIN_VALUE), -1);
         Check.due("leader(MAX)", x.leader(Integer.MAX_VALUE), -1);
         Check.due("leader(0) of none", new ValueNumberer().leader(0), -1);
+        ValueNumberer y = Check.taken("block;" + "num1;".repeat(20) + "ret0;", 20);
+        Check.due("leader(19)", y.leader(19), 0);
+        Check.due("leader(20)", y.leader(20), -1);
     }
 }

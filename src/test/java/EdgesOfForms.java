@@ -196,12 +196,11 @@ final class EdgesOfForms {
         // 2 and 3 by the same forms, where one has an operand that is itself or behind
         String loop = "block;arg 0;num 3;goto 1;block;phi 0 ";
         dueForms(Check.taken(loop + "1;phi 0 1;goto 1;", 4), NAME, 3, NAME + 2, NAME + 2);
-        dueForms(Check.taken(loop + "2;phi 0 2;goto 1;", 4), NAME, 3, NAME + 2, NAME + 3);
         dueForms(Check.taken(loop + "3;phi 0 3;goto 1;", 4), NAME, 3, NAME + 2, NAME + 3);
         dueForms(Check.taken(loop + "4;phi 0 4;add 0 1;goto 1;", 5), NAME, 3, NAME + 2, NAME + 3, NAME + 4);
         dueForms(Check.taken(loop + "3;neg 0;neg 0;goto 1;", 5), NAME, 3, NAME + 2, NAME + 3, NAME + 3);
         // the one that is behind comes by the first PRED
-        dueForms(Check.taken("block;arg 0;goto 3;block;num 7;goto 2;block;phi 2 0;phi 2 0;phi 1 0;phi 1 0;goto 1;block;goto 2;", 6),
+        dueForms(Check.taken("block;arg 0;goto 3;block;num 7;goto 2;block;phi 3 0;phi 3 0;phi 1 0;phi 1 0;goto 1;block;goto 2;", 6),
             NAME, 7, NAME + 2, NAME + 3, NAME + 4, NAME + 4);
         // one OPERAND, told in a BLOCK that dominates, but behind both
         dueForms(Check.taken("block;goto 2;block;phi 2;phi 2;ret 1;block;arg 0;goto 1;", 3), NAME, NAME + 1, NAME + 2);

@@ -186,6 +186,8 @@ final class EdgesOfShape {
         dueBlock(Check.taken(STAR, 2), 1, 1, 1, 1, 1, 2, 0, 6, 3, 0);
         dueBlock(Check.taken("block;" + "num1;".repeat(20) + "ret19;", 20), 0, 0, 20, 2, -4, -4, 19, 0, 1, -4);
         dueBlock(Check.taken("block;goto1;block;" + "num1;".repeat(20) + "goto1;", 20), 0, -4, 0, 0, 1, -4, -4, 0, 1, -4);
+        // the last NAME is the first of its BLOCK
+        dueBlock(Check.taken("block;" + "num1;".repeat(19) + "goto1;block;num1;ret19;", 20), 1, 19, 1, 2, -4, -4, 19, 1, 3, 0);
         // the nearest is not the one of the highest number
         ValueNumberer y = Check.taken("block;goto 3;block;goto 2;block;goto 4;block;goto 1;block;goto 1;", 0);
         int[] nearest = {-4, 3, 1, 0, 2};
@@ -267,6 +269,8 @@ final class EdgesOfShape {
         dueName(x, 1, 8, 0, 0, -4, 0);
         dueName(x, 4, 8, 0, 0, -4, 0);
         dueName(x, 10, 8, 1, 0, -4, 0);
+        // in the last BLOCK
+        dueName(Check.taken(SIX.substring(0, 60) + "block;num 98;goto 1;", 1), 0, 0, 5, 0, 98, 0);
         // the first NAME is one with OPERANDS
         ValueNumberer y = Check.taken("block;goto 2;block;add 2 1;ret 0;block;num 4;num 5;goto 1;", 3);
         dueName(y, 0, 2, 1, 2, -4, 1);
@@ -349,5 +353,10 @@ final class EdgesOfShape {
         }
         Check.due("seen(5, 0)", x.seen(5, 0), 0);
         Check.due("seen(0, 5)", x.seen(0, 5), 1);
+        ValueNumberer y = Check.taken("block;" + "num1;".repeat(20) + "ret0;", 20);
+        Check.due("seen(18, 19)", y.seen(18, 19), 1);
+        Check.due("seen(19, 18)", y.seen(19, 18), 0);
+        Check.due("seen(18, 20)", y.seen(18, 20), -1);
+        Check.due("seen(20, 19)", y.seen(20, 19), -1);
     }
 }

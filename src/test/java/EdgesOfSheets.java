@@ -138,12 +138,10 @@ final class EdgesOfSheets {
         Check.due("set", x.set(1, 5, 18), 19);
         Check.due("alter", x.alter(0, 0), 1);
         Check.due("replace()", x.replace(), 0);
-        Check.due("sweep()", x.sweep(), 19);
         Check.due("keep(1)", x.keep(1), 0);
         Check.due("back(0)", x.back(0), 20);
         Check.due("operand(1, 5)", x.operand(1, 5), 19);
         Check.due("name(0, 3)", x.name(0, 3), 1);
-        Check.due("gone", x.rule(2), 0);
         Check.due("OPERANDS", x.rule(4), 24);
         Check.due("PREDS", x.block(1, 6), 6);
         for (int b = 0; b < 6; b++) {
@@ -152,7 +150,8 @@ final class EdgesOfSheets {
             Check.due("what DOMINATES it", x.block(b, 7), (2 << b) - 1);
         }
         Check.due("back(1)", x.back(1), 20);
-        Check.due("gone there", x.rule(2), 19);
+        Check.due("operand(1, 5) there", x.operand(1, 5), 18);
+        Check.due("name(0, 3) there", x.name(0, 3), 0);
         // of another size, and of none
         ValueNumberer y = new ValueNumberer();
         Check.due("keep(1) of none", y.keep(1), 0);

@@ -95,11 +95,9 @@ public final class FormsTest {
 
     private static void phisBehind() {
         // a phi in a loop is itself, though its operands look alike
-        dueForms(Check.taken("block;arg 0;num 0;goto 1;block;phi 0 2;phi 0 2;phi 0 5;phi 0 5;add 2 1;if 0 1 2;block;ret 2;", 7),
+        dueForms(Check.taken("block;arg 0;num 0;goto 1;block;phi 0 3;phi 0 3;phi 0 5;phi 0 5;add 2 1;if 0 1 2;block;ret 2;", 7),
             NAME, 0, NAME + 2, NAME + 3, NAME + 4, NAME + 5, NAME + 2);
-        // name 3 looks to name 2 alone, which is ahead of it, but no name ahead of it is the same
-        dueForms(Check.taken("block;arg 0;goto 1;block;phi 0 1;phi 0 1;phi 0 0;phi 0 0;if 0 1 2;block;ret 2;", 5),
-            NAME, NAME + 1, NAME + 2, NAME, NAME);
+        dueForms(Check.taken("block;arg 0;goto 1;block;phi 0 1;phi 0 0;phi 0 0;if 0 1 2;block;ret 2;", 4), NAME, NAME + 1, NAME, NAME);
     }
 
     private static void behindAtTheFirstPred() {

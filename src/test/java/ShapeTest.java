@@ -187,8 +187,6 @@ public final class ShapeTest {
         Check.due("values", x.went(1), 1 + 40 * 3 + 39 * 16);
         Check.due("the last of them", x.value(19), 0);
         Check.due("replace()", x.replace(), 0);
-        Check.due("sweep()", x.sweep(), 19);
-        Check.due("gone", x.rule(2), 19);
         Check.due("keep", x.keep(0), 0);
         Check.due("back", x.back(0), 20);
     }

@@ -191,7 +191,6 @@ public final class TapeTest {
         Check.refused(twenty + "num1;ret 0;", 5, 106);
         Check.refused(twenty + "num ?", 5, 106);
         Check.refused(twenty + "neg 0;", 5, 106);
-        Check.refused(twenty + "phi 0;", 2, 106);
         Check.refused(twenty + "goto 1;block;phi 0;", 5, 119);
         Check.refused(twenty + "goto 1;block;arg 0;", 5, 119);
     }
