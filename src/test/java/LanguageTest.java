@@ -10,27 +10,23 @@ import java.util.Arrays;
 import java.util.HashSet;
 import java.util.List;
 import java.util.Set;
-import java.util.regex.Matcher;
-import java.util.regex.Pattern;
 
-/** The face of the class, and those rules of LANGUAGE.md that a look at the text can tell. */
+/** The face of the class, and those rules of LANGUAGE.md that a look at the class or at its source can tell. */
 public final class LanguageTest {
+    private static final Path SOURCE = Path.of("src/main/java/ValueNumberer.java");
     private static final String[] FACE = {"feed(int)int", "end(int)int", "text()int", "fault()int", "rule(int)int",
         "block(int,int)int", "pred(int,int)int", "name(int,int)int", "operand(int,int)int", "seen(int,int)int",
         "run(int,int,int,int)long", "value(int)long", "went(int)int", "classes(int)int", "part(int)int",
         "partAt(int,int)int", "leader(int)int", "form(int)int", "number(int)long", "replace()int", "sweep()int",
         "set(int,int,int)int", "alter(int,int)int", "agree(int,int,int,int,int)int", "keep(int)int", "back(int)int",
         "sheet(int,int,int)int", "lay(int,int,int)int", "read(int,int,int,int)int", "torn()int", "count(int)int"};
-    private static final String[] NO_WORDS = {"throw", "throws", "try", "catch", "synchronized", "assert", "import", "package",
-        "hashCode", "toString", "Object", "finally", "->", "::"};
 
     public static void main(String[] args) throws Exception {
         constants();
         face();
         insides();
-        String source = Files.readString(Path.of("src/main/java/ValueNumberer.java"));
-        noForbiddenWords(source);
-        shortMethods(source);
+        plainSigns(Files.readString(SOURCE));
+        SourceRules.look(SOURCE);
         Check.finish();
     }
 
@@ -99,24 +95,9 @@ public final class LanguageTest {
         }
     }
 
-    private static void noForbiddenWords(String source) {
-        String code = source.replaceAll("(?s)/\\*.*?\\*/", "").replaceAll("//[^\n]*", "");
-        for (String word : NO_WORDS) {
-            boolean isWord = Character.isLetter(word.charAt(0));
-            Matcher found = Pattern.compile(isWord ? "\\b" + word + "\\b" : Pattern.quote(word)).matcher(code);
-            Check.due("found " + word, found.find() ? 1 : 0, 0);
-        }
+    private static void plainSigns(String source) {
         for (int i = 0; i < source.length(); i++) {
             if (source.charAt(i) > 126) Check.due("sign at " + i, source.charAt(i), 0);
-        }
-    }
-
-    private static void shortMethods(String source) {
-        int start = 0;
-        String[] lines = source.split("\n");
-        for (int i = 0; i < lines.length; i++) {
-            if (lines[i].matches("\\s+.*\\) \\{") && !lines[i].matches("\\s+(for|if|switch|\\}).*")) start = i;
-            if (lines[i].matches(" {4}( {4})?\\}")) Check.due("a method to line " + (i + 1), i - start <= 60 || lines[i].equals("    }") ? 1 : 0, 1);
         }
     }
 }
